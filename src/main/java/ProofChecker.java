@@ -290,22 +290,14 @@ public final class ProofChecker {
         }
     }
 
+    /** A row's premises stand before it, so those of the least row that is not RIGHT all are. */
     private int leastBroken(int root) {
         for (int row = 1; row <= root && row < needed.length; row++) {
-            if (needed[row] && !stated.has(row) && premisesAreRight(row)) {
+            if (needed[row] && !stated.has(row)) {
                 return row;
             }
         }
         return 0;
-    }
-
-    private boolean premisesAreRight(int row) {
-        for (int i = 0; i < laid.premiseCount(row); i++) {
-            if (!stated.has(laid.premiseAt(row, i))) {
-                return false;
-            }
-        }
-        return true;
     }
 
     private int sizeAbovePremises(int row) {
