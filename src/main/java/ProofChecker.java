@@ -331,7 +331,7 @@ public final class ProofChecker {
         if (kind == TRIPLE_KIND && stated.number(row, 2) == SAME) {
             return SAME_WORDING;
         }
-        return kind >= 0 && kind < KINDS.length ? KINDS[kind].wording : "";
+        return kind >= 0 && kind < KINDS.length ? KINDS[kind].wording : Kind.NOTHING.wording;
     }
 
     private void tellPremises(int row) {
@@ -342,7 +342,7 @@ public final class ProofChecker {
 
     /** In the order of their numbers; A, B and C in the wording stand for the statement's numbers. */
     private enum Kind {
-        NOTHING(0, ""),
+        NOTHING(0, "nothing"),
         CLASS_BELOW(2, "class A is below class B"),
         PROPERTY_BELOW(2, "A is below B"),
         BEGINS(2, "what A begins at is class B"),

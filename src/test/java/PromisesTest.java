@@ -491,9 +491,9 @@ public final class PromisesTest {
         due("axioms stay", x.axiom(1, 1, 1), 3);
         due("triples stay", x.triple(9, 0, 5), 1);
         due("the next row", x.row(3, 0, 0), 6);
-        due("has no premises of an older row", told(x, 6), "6. , by below.");
+        due("has no premises of an older row", told(x, 6), "6. nothing, by below.");
         due("drop what is not right", x.drop(6), 1);
-        due("it stays as it is", told(x, 1), "1. , by below.");
+        due("it stays as it is", told(x, 1), "1. nothing, by below.");
         due("its check", x.check(1), 0);
     }
 
@@ -528,13 +528,13 @@ public final class PromisesTest {
         int all = row(x, 14, 0, swap, klass, anything);
         due("two go", x.drop(all), all - 2);
         due("the swap has a premise", x.premise(swap - 2, apart - 1), 1);
-        due("the swap", told(x, swap - 2), "3. , by swap from 1.");
+        due("the swap", told(x, swap - 2), "3. nothing, by swap from 1.");
         due("axiom", told(x, axiom - 2), "5. class 7 is below class 8, by axiom.");
         due("itself", told(x, itself - 2), "4. class 7 is below class 7, by itself.");
         due("class", told(x, klass - 2), "7. 4 is class 8, by class from 6 and 2.");
         due("contradiction", told(x, contradiction - 2), "8. contradiction, by apart from 1 and 2 and 2.");
         due("anything", told(x, anything - 2), "9. 5 6 7, by anything from 8.");
-        due("all", told(x, all - 2), "10. , by one from 3 and 7 and 9.");
+        due("all", told(x, all - 2), "10. nothing, by one from 3 and 7 and 9.");
     }
 
     private static void promise11Name() {
@@ -596,12 +596,12 @@ public final class PromisesTest {
         String[] stated = {"5 goes either way", "4 5 6", "class 1 is below class 1"};
         for (int rule = 0; rule <= 17; rule++) {
             int row = x.row(rule, 1, 0);
-            String what = rule < stated.length ? stated[rule] : "";
+            String what = rule < stated.length ? stated[rule] : "nothing";
             due("rule " + rule, told(x, row), row + ". " + what + ", by " + words[rule] + ".");
         }
-        due("one premise", told(x, row(x, 17, 1, 1)), "19. , by anything from 1.");
+        due("one premise", told(x, row(x, 17, 1, 1)), "19. nothing, by anything from 1.");
         due("two premises", told(x, row(x, 9, 0, 1, 2)), "20. 6 5 4, by either from 1 and 2.");
-        due("three premises", told(x, row(x, 15, 0, 20, 2, 19)), "21. , by apart from 20 and 2 and 19.");
+        due("three premises", told(x, row(x, 15, 0, 20, 2, 19)), "21. nothing, by apart from 20 and 2 and 19.");
         int unlike = axiom(x, 10, 5, 5);
         int not = row(x, 16, 0, unlike, given(x, 5, 1, 5));
         due("a contradiction", told(x, not), "24. contradiction, by not from 22 and 23.");
@@ -623,8 +623,8 @@ public final class PromisesTest {
         due("least", x.at(Integer.MIN_VALUE), -2);
         due("most", x.at(Integer.MAX_VALUE), -2);
         x.row(12, 0, 0);
-        due("a shorter one", x.sentence(2), "2. , by swap.".length());
-        due("nothing of the longer one", x.at("2. , by swap.".length()), -2);
+        due("a shorter one", x.sentence(2), "2. nothing, by swap.".length());
+        due("nothing of the longer one", x.at("2. nothing, by swap.".length()), -2);
     }
 
     private static void promise15Concludes() {

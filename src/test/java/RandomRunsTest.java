@@ -429,7 +429,7 @@ public final class RandomRunsTest {
 
         String worded(int[] s) {
             if (s == null) {
-                return "";
+                return "nothing";
             }
             switch (s[0]) {
                 case 1: return "class " + s[1] + " is below class " + s[2];
