@@ -51,7 +51,7 @@ public final class PromisesTest {
         }
     }
 
-    private static int row(ProofChecker x, int rule, int instance, int... premises) {
+    private static int row(CountedChecker x, int rule, int instance, int... premises) {
         int row = x.row(rule, instance, premises.length > 0 ? premises[0] : 0);
         for (int i = 1; i < premises.length; i++) {
             due("premise " + (i + 1) + " of row " + row, x.premise(row, premises[i]), i + 1);
@@ -59,15 +59,15 @@ public final class PromisesTest {
         return row;
     }
 
-    private static int axiom(ProofChecker x, int kind, int a, int b) {
+    private static int axiom(CountedChecker x, int kind, int a, int b) {
         return row(x, 0, x.axiom(kind, a, b));
     }
 
-    private static int given(ProofChecker x, int s, int p, int o) {
+    private static int given(CountedChecker x, int s, int p, int o) {
         return row(x, 1, x.triple(s, p, o));
     }
 
-    private static String told(ProofChecker x, int row) {
+    private static String told(CountedChecker x, int row) {
         int length = x.sentence(row);
         StringBuilder text = new StringBuilder();
         for (int i = 0; i < length; i++) {
@@ -77,7 +77,7 @@ public final class PromisesTest {
         return text.toString();
     }
 
-    private static void dueStatement(String what, ProofChecker x, int row, int kind, int a, int b, int c) {
+    private static void dueStatement(String what, CountedChecker x, int row, int kind, int a, int b, int c) {
         due(what + ": kind", x.states(row, 0), kind);
         due(what + ": first", x.states(row, 1), a);
         due(what + ": second", x.states(row, 2), b);
@@ -86,7 +86,7 @@ public final class PromisesTest {
     }
 
     private static void promise1NewObject() {
-        ProofChecker x = new ProofChecker();
+        CountedChecker x = new CountedChecker();
         due("new: check", x.check(1), -1);
         due("new: broken", x.broken(), 0);
         due("new: rows", x.rows(1), -1);
@@ -101,14 +101,14 @@ public final class PromisesTest {
         due("new: axiom row", x.row(0, 1, 0), 0);
         due("new: given row", x.row(1, 1, 0), 0);
         due("new: anything row", x.row(17, 1, 0), 0);
-        ProofChecker y = new ProofChecker();
+        CountedChecker y = new CountedChecker();
         x.axiom(1, 2, 3);
         due("objects share nothing", y.row(0, 1, 0), 0);
         due("first axiom of another object", y.axiom(1, 2, 3), 1);
     }
 
     private static void promise2Axiom() {
-        ProofChecker x = new ProofChecker();
+        CountedChecker x = new CountedChecker();
         due("axiom kind 0", x.axiom(0, 1, 1), -2);
         due("axiom kind 11", x.axiom(11, 1, 1), -2);
         due("axiom kind 12", x.axiom(12, 1, 1), -2);
@@ -139,7 +139,7 @@ public final class PromisesTest {
     }
 
     private static void promise3Triple() {
-        ProofChecker x = new ProofChecker();
+        CountedChecker x = new CountedChecker();
         int[] off = {-1, 1000, Integer.MIN_VALUE, Integer.MAX_VALUE};
         for (int no : off) {
             due("triple s", x.triple(no, 1, 1), -2);
@@ -167,7 +167,7 @@ public final class PromisesTest {
     }
 
     private static void promise4Row() {
-        ProofChecker x = new ProofChecker();
+        CountedChecker x = new CountedChecker();
         due("rule -1", x.row(-1, 1, 0), 0);
         due("rule 18", x.row(18, 1, 0), 0);
         due("no axiom yet", x.row(0, 1, 0), 0);
@@ -202,7 +202,7 @@ public final class PromisesTest {
     }
 
     private static void promise4RowHasRoomFor300() {
-        ProofChecker x = new ProofChecker();
+        CountedChecker x = new CountedChecker();
         for (int i = 1; i <= 300; i++) {
             due("row up to 300", x.row(2, i, 0), i);
         }
@@ -214,7 +214,7 @@ public final class PromisesTest {
     }
 
     private static void promise5Premise() {
-        ProofChecker x = new ProofChecker();
+        CountedChecker x = new CountedChecker();
         int a = axiom(x, 6, 5, 0);
         int t = given(x, 7, 5, 8);
         int u = given(x, 8, 5, 9);
@@ -237,7 +237,7 @@ public final class PromisesTest {
     }
 
     private static void promise5PremisesOfAnEarlierRow() {
-        ProofChecker x = new ProofChecker();
+        CountedChecker x = new CountedChecker();
         int a = axiom(x, 1, 5, 6);
         int b = axiom(x, 1, 6, 7);
         int c = row(x, 3, 0, a);
@@ -249,7 +249,7 @@ public final class PromisesTest {
         dueStatement("what rests on it", x, d, 11, 9, 0, 7);
         due("an earlier row takes no more", x.premise(c, b), -3);
 
-        ProofChecker y = new ProofChecker();
+        CountedChecker y = new CountedChecker();
         int e = given(y, 4, 1, 5);
         int f = row(y, 12, 0, e);
         int g = row(y, 12, 0, f);
@@ -260,7 +260,7 @@ public final class PromisesTest {
     private static void promise5EachRuleTakesItsPremises() {
         int[] takes = {0, 0, 0, 2, 2, 2, 2, 2, 2, 2, 3, 2, 1, 2, 3, 3, 2, 1};
         for (int rule = 0; rule < takes.length; rule++) {
-            ProofChecker x = new ProofChecker();
+            CountedChecker x = new CountedChecker();
             axiom(x, 1, 5, 6);
             x.triple(1, 2, 3);
             int r = x.row(rule, 1, 0);
@@ -272,7 +272,7 @@ public final class PromisesTest {
     }
 
     private static void promise6CheckOfEachRule() {
-        ProofChecker x = new ProofChecker();
+        CountedChecker x = new CountedChecker();
         dueStatement("itself", x, x.row(2, 40, 0), 1, 40, 40, 0);
         int below = row(x, 3, 0, axiom(x, 1, 5, 6), axiom(x, 1, 6, 7));
         dueStatement("below", x, below, 1, 5, 7, 0);
@@ -304,7 +304,7 @@ public final class PromisesTest {
 
     /** Each near miss differs from what the rule asks in one place. */
     private static void promise6CheckOfRulesThatDoNotFit() {
-        ProofChecker x = new ProofChecker();
+        CountedChecker x = new CountedChecker();
         int c56 = axiom(x, 1, 5, 6);
         int c67 = axiom(x, 1, 6, 7);
         int p56 = axiom(x, 2, 5, 6);
@@ -359,12 +359,12 @@ public final class PromisesTest {
         due("apart holds in its order", x.check(row(x, 15, 0, apart, is, isOther)), 1);
     }
 
-    private static void not(ProofChecker x, String what, int rule, int... premises) {
+    private static void not(CountedChecker x, String what, int rule, int... premises) {
         dueStatement(what, x, row(x, rule, 0, premises), 0, 0, 0, 0);
     }
 
     private static void promise6CheckOfPremises() {
-        ProofChecker x = new ProofChecker();
+        CountedChecker x = new CountedChecker();
         int a = axiom(x, 1, 5, 6);
         int b = axiom(x, 1, 6, 7);
         int short1 = row(x, 3, 0, a);
@@ -376,7 +376,7 @@ public final class PromisesTest {
     }
 
     private static void promise7Broken() {
-        ProofChecker x = new ProofChecker();
+        CountedChecker x = new CountedChecker();
         int a = axiom(x, 1, 5, 6);
         int b = axiom(x, 1, 6, 7);
         int lone = row(x, 3, 0, b, a);
@@ -409,7 +409,7 @@ public final class PromisesTest {
     }
 
     private static void promise7BrokenIsWhatTheLatestCheckSaw() {
-        ProofChecker x = new ProofChecker();
+        CountedChecker x = new CountedChecker();
         int a = axiom(x, 1, 5, 5);
         int b = row(x, 3, 0, a);
         due("not right", x.check(b), 0);
@@ -420,7 +420,7 @@ public final class PromisesTest {
     }
 
     private static void promise8Rows() {
-        ProofChecker x = new ProofChecker();
+        CountedChecker x = new CountedChecker();
         int a = axiom(x, 6, 5, 0);
         int t = given(x, 7, 5, 7);
         int lone = x.row(2, 3, 0);
@@ -437,7 +437,7 @@ public final class PromisesTest {
     }
 
     private static void promise9Size() {
-        ProofChecker x = new ProofChecker();
+        CountedChecker x = new CountedChecker();
         int last = x.row(2, 1, 0);
         long want = 1;
         for (int i = 0; i < 40; i++) {
@@ -454,14 +454,14 @@ public final class PromisesTest {
         due("rows are counted once", x.rows(last), last);
         due("row 0", x.size(0), -1);
         due("no row", x.size(last + 1), -1);
-        ProofChecker y = new ProofChecker();
+        CountedChecker y = new CountedChecker();
         int a = axiom(y, 1, 2, 2);
         int b = row(y, 3, 0, a);
         due("a premise alone", y.size(b), 2);
     }
 
     private static void promise10Drop() {
-        ProofChecker x = new ProofChecker();
+        CountedChecker x = new CountedChecker();
         x.row(2, 900, 0);
         int a = axiom(x, 1, 5, 6);
         x.row(2, 901, 0);
@@ -498,7 +498,7 @@ public final class PromisesTest {
     }
 
     private static void promise10DropMakesRoom() {
-        ProofChecker x = new ProofChecker();
+        CountedChecker x = new CountedChecker();
         for (int i = 1; i <= 299; i++) {
             x.row(2, i, 0);
         }
@@ -512,7 +512,7 @@ public final class PromisesTest {
 
     /** A premise more in an earlier row has the later ones looked at anew: they must be what they were. */
     private static void promise10DropKeepsWhatRowsAre() {
-        ProofChecker x = new ProofChecker();
+        CountedChecker x = new CountedChecker();
         x.row(2, 900, 0);
         x.triple(1, 2, 3);
         int apart = axiom(x, 5, 7, 7);
@@ -538,7 +538,7 @@ public final class PromisesTest {
     }
 
     private static void promise11Name() {
-        ProofChecker x = new ProofChecker();
+        CountedChecker x = new CountedChecker();
         x.axiom(1, 5, 6);
         x.triple(1, 2, 3);
         for (int rule = 0; rule <= 17; rule++) {
@@ -550,7 +550,7 @@ public final class PromisesTest {
     }
 
     private static void promise12States() {
-        ProofChecker x = new ProofChecker();
+        CountedChecker x = new CountedChecker();
         int t = given(x, 7, 8, 9);
         dueStatement("a triple", x, t, 11, 7, 8, 9);
         dueStatement("one number", x, axiom(x, 6, 5, 4), 6, 5, 0, 0);
@@ -571,45 +571,46 @@ public final class PromisesTest {
             "what 5 leads to is class 600", "class 5 and class 600 have nothing in common",
             "5 goes through", "5 goes either way", "5 is 600 the other way", "5 leads to one",
             "5 is not 600"};
-        ProofChecker x = new ProofChecker();
         for (int kind = 1; kind <= 10; kind++) {
-            int row = axiom(x, kind, 5, 600);
-            due("kind " + kind, told(x, row), row + ". " + wording[kind - 1] + ", by axiom.");
+            CountedChecker x = new CountedChecker();
+            due("kind " + kind, told(x, axiom(x, kind, 5, 600)), "1. " + wording[kind - 1] + ", by axiom.");
         }
-        due("a triple", told(x, given(x, 7, 80, 900)), "11. 7 80 900, by given.");
-        due("an IS", told(x, given(x, 7, 0, 1)), "12. 7 is class 1, by given.");
-        due("a SAME", told(x, given(x, 7, 1, 0)), "13. 7 is 0, by given.");
-        due("terms 0 and 1 elsewhere", told(x, given(x, 0, 2, 1)), "14. 0 2 1, by given.");
+        CountedChecker x = new CountedChecker();
+        due("a triple", told(x, given(x, 7, 80, 900)), "1. 7 80 900, by given.");
+        due("an IS", told(x, given(x, 7, 0, 1)), "2. 7 is class 1, by given.");
+        due("a SAME", told(x, given(x, 7, 1, 0)), "3. 7 is 0, by given.");
+        due("terms 0 and 1 elsewhere", told(x, given(x, 0, 2, 1)), "4. 0 2 1, by given.");
         due("row 0", x.sentence(0), -1);
-        due("no row", x.sentence(15), -1);
-        due("the latest sentence stays", x.at(0), '1');
-        due("the latest sentence stays", x.at(1), '4');
-        due("how many bytes", x.sentence(1), "1. class 5 is below class 600, by axiom.".length());
+        due("no row", x.sentence(5), -1);
+        due("the latest sentence stays", x.at(0), '4');
+        due("how many bytes", x.sentence(1), "1. 7 80 900, by given.".length());
     }
 
     private static void promise13Rules() {
         String[] words = {"axiom", "given", "itself", "below", "properties", "class", "property", "begins",
             "leads", "either", "through", "other", "swap", "equal", "one", "apart", "not", "anything"};
-        ProofChecker x = new ProofChecker();
-        x.axiom(7, 5, 0);
-        x.triple(4, 5, 6);
         String[] stated = {"5 goes either way", "4 5 6", "class 1 is below class 1"};
         for (int rule = 0; rule <= 17; rule++) {
-            int row = x.row(rule, 1, 0);
+            CountedChecker x = new CountedChecker();
+            x.axiom(7, 5, 0);
+            x.triple(4, 5, 6);
             String what = rule < stated.length ? stated[rule] : "nothing";
-            due("rule " + rule, told(x, row), row + ". " + what + ", by " + words[rule] + ".");
+            due("rule " + rule, told(x, x.row(rule, 1, 0)), "1. " + what + ", by " + words[rule] + ".");
         }
-        due("one premise", told(x, row(x, 17, 1, 1)), "19. nothing, by anything from 1.");
-        due("two premises", told(x, row(x, 9, 0, 1, 2)), "20. 6 5 4, by either from 1 and 2.");
-        due("three premises", told(x, row(x, 15, 0, 20, 2, 19)), "21. nothing, by apart from 20 and 2 and 19.");
+        CountedChecker x = new CountedChecker();
+        int either = axiom(x, 7, 5, 0);
+        int t = given(x, 4, 5, 6);
+        due("one premise", told(x, row(x, 17, 1, t)), "3. nothing, by anything from 2.");
+        due("two premises", told(x, row(x, 9, 0, either, t)), "4. 6 5 4, by either from 1 and 2.");
+        due("three premises", told(x, row(x, 15, 0, 4, t, 3)), "5. nothing, by apart from 4 and 2 and 3.");
         int unlike = axiom(x, 10, 5, 5);
         int not = row(x, 16, 0, unlike, given(x, 5, 1, 5));
-        due("a contradiction", told(x, not), "24. contradiction, by not from 22 and 23.");
-        due("anything", told(x, row(x, 17, 1, not)), "25. 4 5 6, by anything from 24.");
+        due("a contradiction", told(x, not), "8. contradiction, by not from 6 and 7.");
+        due("anything", told(x, row(x, 17, 1, not)), "9. 4 5 6, by anything from 8.");
     }
 
     private static void promise14At() {
-        ProofChecker x = new ProofChecker();
+        CountedChecker x = new CountedChecker();
         due("no sentence", x.at(0), -2);
         x.row(2, 7, 0);
         due("still none", x.at(0), -2);
@@ -628,7 +629,7 @@ public final class PromisesTest {
     }
 
     private static void promise15Concludes() {
-        ProofChecker x = new ProofChecker();
+        CountedChecker x = new CountedChecker();
         int t = given(x, 7, 5, 8);
         given(x, 8, 5, 7);
         int either = row(x, 9, 0, axiom(x, 7, 5, 0), t);
